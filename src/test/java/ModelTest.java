@@ -7,6 +7,11 @@ public final class ModelTest {
         "&*.&1&.&.&.&..", "+&*1?2", "*|1&*23", "&*1*1", "|?1?2", "&.&.&.&.&.&.&..", "+?.", "&+1+1",
     };
 
+    /** Of hundreds of ways to stand, most of them unlike; the likeliest to go wrong where ways are told apart. */
+    private static final String[] OF_MANY_WAYS = {
+        "r1,*&3&&.&.3&&..&..;r1,+&3.;", "r1,+&&1.&.&.&.&.&..;r1,+|12;", "r1,*&|3+0.;r1,*&+&3.&0+&&.&..3;",
+    };
+
     private static long state = 20261119;
     private static int wrong;
 
@@ -77,6 +82,22 @@ public final class ModelTest {
         return done;
     }
 
+    private static void layAndAskOfManyWays(int run, String text) {
+        BoundaryRules x = new BoundaryRules();
+        PlainModel m = new PlainModel();
+        x.wipe();
+        m.wipe();
+        for (char sign : text.toCharArray()) due(run, 0, "write(" + (int) sign + ")", x.write(sign), m.write(sign));
+        due(run, 1, "lay() of " + text, x.lay(), m.lay());
+        for (int what = 0; what < 5; what++) due(run, 2, "machine(" + what + ") of " + text, x.machine(what), m.machine(what));
+        for (int a = 0; a < 6; a++) {
+            for (int b = 0; b < 6; b++) {
+                due(run, 3, "alike(" + a + ", " + b + ") of " + text, x.alike(a, b), m.alike(a, b));
+                due(run, 3, "known(" + a + ", " + b + ") of " + text, x.known(a, b), m.known(a, b));
+            }
+        }
+    }
+
     private static void call(int run, int done, BoundaryRules x, PlainModel m) {
         int n = m.count(2), a, b, c;
         switch (draw(31)) {
@@ -127,6 +148,7 @@ public final class ModelTest {
                 if (draw(150) == 0 && done < CALLS - 210) done = layText(run, done, x, m);
             }
         }
+        for (int i = 0; i < OF_MANY_WAYS.length; i++) layAndAskOfManyWays(runs + i, OF_MANY_WAYS[i]);
         System.out.println("ModelTest: " + (wrong == 0 ? "all as due" : wrong + " wrong"));
         if (wrong != 0) System.exit(1);
     }

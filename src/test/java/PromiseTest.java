@@ -290,11 +290,16 @@ public final class PromiseTest {
         due("undo()", x.undo(), 0);
         same("the line", line(x), "aba");
         due("undo()", x.undo(), NO);
-        for (int i = 0; i < 11; i++) x.insert(0, i);
+        for (int i = 0; i < 3; i++) x.insert(i, i);
+        // eight acts of three sorts, so that the three ahead of them are beyond what can be undone
+        for (int i = 3; i < 9; i++) x.insert(i % 4, i + 10);
+        x.erase(7);
+        x.rename(0, 3);
         due("count(4)", x.count(4), 8);
         for (int i = 7; i >= 0; i--) due("undo()", x.undo(), i);
         due("undo()", x.undo(), NO);
-        same("the line", line(x), "cbaaba");
+        same("the line", line(x), "abcaba");
+        due("rule(0, 0)", x.rule(0, 0), 0);
         x.rename(0, 1);
         due("machine(0)", x.machine(0), 2);
         x.undo();
@@ -507,6 +512,11 @@ public final class PromiseTest {
         x = laid("c1,a;r0,+1;saa;");
         want = new int[] {3, 3, 1};
         for (int what = 0; what < 3; what++) due("day(2, 1, " + what + ")", x.day(2, 1, what), want[what]);
+        // z = 1: DRAW 22803, by which q is of class 5: nothing of b aa b is changed
+        x = laid("c1,a;r0,+1;sbaab;");
+        want = new int[] {4, 3, 2};
+        for (int what = 0; what < 3; what++) due("day(1, 1, " + what + ")", x.day(1, 1, what), want[what]);
+        due("day(3, 1, 0) of one", laid("r0,1;sa;").day(3, 1, 0), 0);
         BoundaryRules none = laid("r0,1;");
         due("day(3, 1, 0) of none", none.day(3, 1, 0), 0);
         due("day(3, 1, 1) of none", none.day(3, 1, 1), 0);
