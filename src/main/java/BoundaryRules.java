@@ -629,12 +629,12 @@ public final class BoundaryRules {
 
         /** Reads the row from its last sign on, so that a sign comes when its parts stand there. */
         void add(Text text, int from, int end) {
-            int has = text.placesIn(from, end);
-            if (number >= MOST_RULES || placeNumber + has > MOST_PLACES) {
+            int newPlaces = text.placesIn(from, end);
+            if (number >= MOST_RULES || placeNumber + newPlaces > MOST_PLACES) {
                 return;
             }
             parts.clear();
-            int p = placeNumber + has;
+            int p = placeNumber + newPlaces;
             for (int at = end - 1; at >= from; at--) {
                 int sign = text.signAt(at);
                 if (sign == '.' || isClass(sign - '0')) {
@@ -644,11 +644,11 @@ public final class BoundaryRules {
                     join(sign);
                 }
             }
-            places[number] = (1 << placeNumber + has) - (1 << placeNumber);
+            places[number] = (1 << placeNumber + newPlaces) - (1 << placeNumber);
             firsts[number] = parts.first();
             wholes[number] = parts.last();
             number++;
-            placeNumber += has;
+            placeNumber += newPlaces;
         }
 
         private void addPlace(int p, int takes) {
