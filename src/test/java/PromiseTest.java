@@ -1,51 +1,9 @@
 /** For each promise what it says, at ordinary numbers, at its edges and at wrong ones; worked out by hand. */
-public final class PromiseTest {
-    private static final int BAD = -1, NO = -2, FULL = -3, NONE = -4;
-    private static final int[] WRONG = {-1, Integer.MIN_VALUE, Integer.MAX_VALUE};
-
-    private static int wrong;
-    private static String promise = "";
-
-    private static void due(String call, int got, int want) {
-        if (got != want) {
-            wrong++;
-            System.out.println(promise + ": " + call + " answered " + got + ", due is " + want);
-        }
-    }
-
-    private static BoundaryRules put(BoundaryRules x, String text) {
-        x.wipe();
-        for (int i = 0; i < text.length(); i++) x.write(text.charAt(i));
-        return x;
-    }
-
-    private static BoundaryRules laid(String text) {
-        BoundaryRules x = put(new BoundaryRules(), text);
-        due("lay() of " + text + " < 1", x.lay() < 1 ? 1 : 0, 0);
-        return x;
-    }
-
-    private static String line(BoundaryRules x) {
-        StringBuilder line = new StringBuilder();
-        for (int at = 0; x.letter(at) >= 0; at++) line.append((char) ('a' + x.letter(at)));
-        return line.toString();
-    }
-
-    private static String bounds(BoundaryRules x) {
-        StringBuilder bounds = new StringBuilder();
-        for (int at = 0; x.isBoundary(at) >= 0; at++) bounds.append(x.isBoundary(at));
-        return bounds.toString();
-    }
-
-    private static void same(String what, String got, String want) {
-        if (!got.equals(want)) {
-            wrong++;
-            System.out.println(promise + ": " + what + " is " + got + ", due is " + want);
-        }
-    }
+public final class PromiseTest extends Due {
+    private static final int[] WRONG = {-1, LEAST_INT, GREATEST_INT};
 
     private static void faultDue(String text, int want) {
-        due("fault() of " + text, put(new BoundaryRules(), text).fault(), want);
+        due("fault() of " + text, faultOf(text), want);
     }
 
     private static void newObject() {
@@ -87,7 +45,7 @@ public final class PromiseTest {
     }
 
     private static void fault() {
-        String letters = "abcdefghijklmnopqrstuvwxyz";
+        String letters = ALPHABET;
         for (String good : new String[] {"", "s;", "c0,a;", "c5,z;", "c1,aa;", "c1," + letters + ";", "r0,0;", "r3,5;",
             "r0,.;", "s" + letters + "abcd;", "sa;s;sb;", "r0,&.&.&.&.&.&.&..;", "r0,***************1;",
             "r0,|1&2?3;", "r0,1;r1,1;r2,1;r3,1;", "r0,&.&.&.&..;r0,&.&.&.&..;", "sz;c1,a;r0,1;", "r0,1;c1,a;r0,2;"}) {
@@ -587,26 +545,43 @@ public final class PromiseTest {
         due("count(3) of none", laid("r0,1;").count(3), 0);
     }
 
-    public static void main(String[] args) {
-        promise = "constants";
+    private static void constants() {
         due("BAD", BoundaryRules.BAD, BAD);
         due("NO", BoundaryRules.NO, NO);
         due("FULL", BoundaryRules.FULL, FULL);
         due("NONE", BoundaryRules.NONE, NONE);
-        String[] names = {"new", "write", "wipe", "fault", "lay", "rule", "place", "kind", "letter", "insert", "erase", "tell",
-            "rename", "undo", "isBoundary", "boundary", "stand", "piece", "machine", "alike", "known", "back", "idle", "least",
-            "day", "keep", "restore", "count"};
-        Runnable[] tests = {PromiseTest::newObject, PromiseTest::write, PromiseTest::wipe, PromiseTest::fault, PromiseTest::lay,
-            PromiseTest::rule, PromiseTest::place, PromiseTest::kind, PromiseTest::letter, PromiseTest::insert,
-            PromiseTest::erase, PromiseTest::tell, PromiseTest::rename, PromiseTest::undo, PromiseTest::isBoundary,
-            PromiseTest::boundary, PromiseTest::stand, PromiseTest::piece, PromiseTest::machine, PromiseTest::alike,
-            PromiseTest::known, PromiseTest::back, PromiseTest::idle, PromiseTest::least, PromiseTest::day, PromiseTest::keep,
-            PromiseTest::restore, PromiseTest::count};
-        for (int i = 0; i < tests.length; i++) {
-            promise = "promise " + (i + 1) + " (" + names[i] + ")";
-            tests[i].run();
-        }
-        System.out.println("PromiseTest: " + (wrong == 0 ? "all as due" : wrong + " wrong"));
-        if (wrong != 0) System.exit(1);
+    }
+
+    public static void main(String[] args) {
+        test("constants", PromiseTest::constants);
+        test("promise 1 (new)", PromiseTest::newObject);
+        test("promise 2 (write)", PromiseTest::write);
+        test("promise 3 (wipe)", PromiseTest::wipe);
+        test("promise 4 (fault)", PromiseTest::fault);
+        test("promise 5 (lay)", PromiseTest::lay);
+        test("promise 6 (rule)", PromiseTest::rule);
+        test("promise 7 (place)", PromiseTest::place);
+        test("promise 8 (kind)", PromiseTest::kind);
+        test("promise 9 (letter)", PromiseTest::letter);
+        test("promise 10 (insert)", PromiseTest::insert);
+        test("promise 11 (erase)", PromiseTest::erase);
+        test("promise 12 (tell)", PromiseTest::tell);
+        test("promise 13 (rename)", PromiseTest::rename);
+        test("promise 14 (undo)", PromiseTest::undo);
+        test("promise 15 (isBoundary)", PromiseTest::isBoundary);
+        test("promise 16 (boundary)", PromiseTest::boundary);
+        test("promise 17 (stand)", PromiseTest::stand);
+        test("promise 18 (piece)", PromiseTest::piece);
+        test("promise 19 (machine)", PromiseTest::machine);
+        test("promise 20 (alike)", PromiseTest::alike);
+        test("promise 21 (known)", PromiseTest::known);
+        test("promise 22 (back)", PromiseTest::back);
+        test("promise 23 (idle)", PromiseTest::idle);
+        test("promise 24 (least)", PromiseTest::least);
+        test("promise 25 (day)", PromiseTest::day);
+        test("promise 26 (keep)", PromiseTest::keep);
+        test("promise 27 (restore)", PromiseTest::restore);
+        test("promise 28 (count)", PromiseTest::count);
+        end("PromiseTest");
     }
 }
