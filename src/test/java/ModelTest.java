@@ -1,4 +1,4 @@
-/** Many runs of drawn calls, each answer beside the plain model's; the same draws each time (or: runs, seed). */
+/** Many runs of drawn calls, and each short row, beside the plain model; the same draws each time (or: runs, seed). */
 public final class ModelTest {
     private static final int CALLS = 500;
     private static final String[] ROWS = {
@@ -82,13 +82,18 @@ public final class ModelTest {
         return done;
     }
 
-    private static void layAndAskOfManyWays(int run, String text) {
-        BoundaryRules x = new BoundaryRules();
-        PlainModel m = new PlainModel();
+    private static void layInBoth(int run, BoundaryRules x, PlainModel m, String text) {
         x.wipe();
         m.wipe();
         for (char sign : text.toCharArray()) due(run, 0, "write(" + (int) sign + ")", x.write(sign), m.write(sign));
+        due(run, 1, "fault() of " + text, x.fault(), m.fault());
         due(run, 1, "lay() of " + text, x.lay(), m.lay());
+    }
+
+    private static void layAndAskOfManyWays(int run, String text) {
+        BoundaryRules x = new BoundaryRules();
+        PlainModel m = new PlainModel();
+        layInBoth(run, x, m, text);
         for (int what = 0; what < 5; what++) due(run, 2, "machine(" + what + ") of " + text, x.machine(what), m.machine(what));
         for (int a = 0; a < 6; a++) {
             for (int b = 0; b < 6; b++) {
@@ -96,6 +101,31 @@ public final class ModelTest {
                 due(run, 3, "known(" + a + ", " + b + ") of " + text, x.known(a, b), m.known(a, b));
             }
         }
+    }
+
+    /** Each row of so many signs, whether it is one or not; of those that are, all that the rows and a line tell. */
+    private static void layEachRowOf(int signs) {
+        String all = "1.&|*+?";
+        int rows = 1;
+        for (int i = 0; i < signs; i++) rows *= all.length();
+        for (int row = 0; row < rows; row++) {
+            StringBuilder text = new StringBuilder("r").append(row % 4).append(',');
+            for (int i = 0, left = row; i < signs; i++, left /= all.length()) text.append(all.charAt(left % all.length()));
+            layAndAskOfRow(row, text.append(";c1,a;c5,q;saqbaaqqaba;").toString());
+        }
+    }
+
+    private static void layAndAskOfRow(int run, String text) {
+        BoundaryRules x = new BoundaryRules();
+        PlainModel m = new PlainModel();
+        layInBoth(run, x, m, text);
+        if (m.fault() >= 0) return;
+        for (int what = 0; what < 4; what++) due(run, 2, "rule(0, " + what + ") of " + text, x.rule(0, what), m.rule(0, what));
+        for (int p = 0; p < m.count(1); p++) due(run, 3, "place(" + p + ", 1) of " + text, x.place(p, 1), m.place(p, 1));
+        for (int at = 0; at <= m.count(2); at++) due(run, 4, "stand(" + at + ") of " + text, x.stand(at), m.stand(at));
+        for (int what = 0; what < 5; what++) due(run, 5, "machine(" + what + ") of " + text, x.machine(what), m.machine(what));
+        due(run, 6, "idle() of " + text, x.idle(), m.idle());
+        due(run, 6, "least(0) of " + text, x.least(0), m.least(0));
     }
 
     private static void call(int run, int done, BoundaryRules x, PlainModel m) {
@@ -149,6 +179,7 @@ public final class ModelTest {
             }
         }
         for (int i = 0; i < OF_MANY_WAYS.length; i++) layAndAskOfManyWays(runs + i, OF_MANY_WAYS[i]);
+        for (int signs = 0; signs <= 5; signs++) layEachRowOf(signs);
         System.out.println("ModelTest: " + (wrong == 0 ? "all as due" : wrong + " wrong"));
         if (wrong != 0) System.exit(1);
     }

@@ -241,6 +241,8 @@ public final class PieceEdgeTest extends Due {
         standsDue("r1,&1&11;", "aqaqaq", "1 1 2 2 4 4");
         standsDue("r1,&11;r0,&11;", "aqa", "5 1 2");
         standsDue("r0,&11;r1,&11;", "aqa", "5 4 8");
+        standsDue("r1,&11;r1,&11;", "aqa", "5 5 10");
+        standsDue("r3,&11;r0,1;r1,&11;", "aqa", "13 9 18");
         standsDue("r1,&1|52;", "aqqb", "1 3 3 4");
         standsDue("r1,1;", "qa", "0 1");
     }

@@ -79,6 +79,11 @@ public final class WaysEdgeTest extends Due {
         // two rows of one length do the same from their second place on, unless one is longer
         machinesDue("r0,|&1.&2.;", "5 2 24 1 0");
         machinesDue("r0,|&1.&2&..;", "6 3 0 1 0");
+        for (int x = 0; x <= 5; x++) {
+            BoundaryRules y = laid("r0,&1" + x + ";");
+            due("machine(0) where " + x + " goes on", y.machine(0), 3);
+            due("machine(1) where " + x + " goes on", y.machine(1), 2);
+        }
     }
 
     // ---- classes alike
