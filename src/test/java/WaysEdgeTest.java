@@ -171,6 +171,7 @@ public final class WaysEdgeTest extends Due {
         same("back(at, 0)", backs(x, 0), "0 0 0 0 4 4 6");
         same("back(at, 1)", backs(x, 1), "0 1 2 3 0 1 0");
         due("machine(4)", x.machine(4), 3);
+        same("back(at, 0)", backs(laid(CLASSES + "r0,&1&12;sacab;"), 0), "0 0 2 3 3");
         x.tell(0, 3);
         same("back(at, 0) of another class", backs(x, 0), "0 0 2 3 4 5 6");
         due("machine(4)", x.machine(4), 1);
