@@ -3,17 +3,18 @@ import java.lang.reflect.Method;
 import java.lang.reflect.Modifier;
 import java.nio.file.Files;
 import java.nio.file.Path;
+import java.util.Arrays;
 import java.util.HashSet;
 import java.util.Set;
-import java.util.TreeSet;
 import java.util.regex.Matcher;
 import java.util.regex.Pattern;
 
 /** What of ../shared/LANGUAGE.md can be seen from the source and the class; -Dsource names the source. */
 public final class LanguageTest {
-    private static final Set<String> FACE = Set.of("write/1", "wipe/0", "fault/0", "lay/0", "rule/2", "place/2", "kind/1",
+    /** Each call with how many numbers it is given; what they are named and answer, FaceTest sees. */
+    private static final String[] FACE = {"write/1", "wipe/0", "fault/0", "lay/0", "rule/2", "place/2", "kind/1",
         "letter/1", "insert/2", "erase/1", "tell/2", "rename/2", "undo/0", "isBoundary/1", "boundary/2", "stand/1", "piece/2",
-        "machine/1", "alike/2", "known/2", "back/2", "idle/0", "least/1", "day/3", "keep/0", "restore/0", "count/1");
+        "machine/1", "alike/2", "known/2", "back/2", "idle/0", "least/1", "day/3", "keep/0", "restore/0", "count/1"};
 
     private static int wrong;
 
@@ -24,28 +25,42 @@ public final class LanguageTest {
         }
     }
 
-    private static void checkFace(Class<?> c) {
-        Set<String> face = new TreeSet<>(), names = new HashSet<>();
-        for (String f : FACE) names.add(f.substring(0, f.indexOf('/')));
+    /** No member but the face is to be seen, and no private method bears the name of a public one. */
+    private static void checkWhatIsSeen(Class<?> c) {
+        Set<String> names = new HashSet<>();
+        for (String call : FACE) names.add(call.substring(0, call.indexOf('/')));
         for (Method m : c.getDeclaredMethods()) {
-            if (Modifier.isPublic(m.getModifiers())) {
-                face.add(m.getName() + "/" + m.getParameterCount());
-                want(m.getReturnType() == int.class && !Modifier.isStatic(m.getModifiers()), m + " is not as in the face");
-                for (Class<?> p : m.getParameterTypes()) want(p == int.class, m + " takes another type");
-            } else {
-                want(Modifier.isPrivate(m.getModifiers()), m + " is neither public nor private");
-                want(!names.contains(m.getName()), m + " bears the name of a public one");
+            boolean isPublic = Modifier.isPublic(m.getModifiers());
+            want(isPublic || Modifier.isPrivate(m.getModifiers()), m + " is neither public nor private");
+            want(isPublic == names.contains(m.getName()), m + " is private by the name of a public one, or public beside the face");
+        }
+        for (Field f : c.getDeclaredFields()) {
+            want(Modifier.isPublic(f.getModifiers()) || Modifier.isPrivate(f.getModifiers()), f + " is neither public nor private");
+        }
+    }
+
+    /** Rule 7: whatever the numbers, however things stand, and beyond the 512th call, of which only the answers are free. */
+    private static void checkNothingIsThrown() {
+        Draws draws = new Draws(7);
+        for (int run = 0; run < 30; run++) {
+            Asked x = new Asked();
+            for (int call = 0; call < 900; call++) {
+                if (call % 300 == 200) x.lay(draws.text());
+                String[] drawn = FACE[draws.draw(FACE.length)].split("/");
+                int[] numbers = new int[Integer.parseInt(drawn[1])];
+                for (int i = 0; i < numbers.length; i++) numbers[i] = anyNumber(draws);
+                want(x.ask(drawn[0], numbers) != Asked.THREW, drawn[0] + " threw by " + Arrays.toString(numbers));
             }
         }
-        want(face.equals(new TreeSet<>(FACE)), "the face is " + face);
-        Set<String> constants = new TreeSet<>();
-        for (Field f : c.getDeclaredFields()) {
-            if (Modifier.isPublic(f.getModifiers())) constants.add(f.getName());
-            else want(Modifier.isPrivate(f.getModifiers()), f + " is neither public nor private");
+    }
+
+    private static int anyNumber(Draws draws) {
+        switch (draws.draw(8)) {
+            case 0: return draws.draw(2) == 0 ? Integer.MIN_VALUE : Integer.MAX_VALUE;
+            case 1: return draws.draw(1 << 30) * (draws.draw(2) == 0 ? -4 : 4) + draws.draw(4);
+            case 2: return draws.draw(240) - 20;
+            default: return draws.draw(34) - 2;
         }
-        want(constants.equals(Set.of("BAD", "NO", "FULL", "NONE")), "the constants are " + constants);
-        want(Modifier.isPublic(c.getModifiers()) && Modifier.isFinal(c.getModifiers()), "the class is public and final");
-        want(c.getDeclaredConstructors().length == 1 && c.getConstructors().length == 1, "one constructor, public");
     }
 
     private static void checkClass(Class<?> c) {
@@ -85,6 +100,16 @@ public final class LanguageTest {
         }
         for (char sign : source.toCharArray()) want(sign == '\n' || sign >= 32 && sign < 127, "the sign " + (int) sign);
         checkLengths(code);
+        checkRoom(code);
+    }
+
+    /** All calls of a run live in one room: what an object needs is made with it, so that no call makes any. */
+    private static void checkRoom(String code) {
+        for (String line : code.split("\n")) {
+            boolean isField = Pattern.matches(" {4}(?: {4})?private (?:static )?final \\S+ \\w+ = new .*;", line);
+            want(isField || !Pattern.compile("\\bnew\\b|\\bclone\\b|copyOf|\\{ *\\d|substring|toCharArray|String\\w*\\(").matcher(line).find(),
+                "something is made by a call: " + line);
+        }
     }
 
     /** A method begins at four or eight signs of indent with a ( and ends at its own indent. */
@@ -99,7 +124,8 @@ public final class LanguageTest {
     }
 
     public static void main(String[] args) throws Exception {
-        checkFace(BoundaryRules.class);
+        checkWhatIsSeen(BoundaryRules.class);
+        checkNothingIsThrown();
         checkClass(BoundaryRules.class);
         Class<?>[] inside = BoundaryRules.class.getDeclaredClasses();
         want(inside.length <= 11, inside.length + " classes inside");

@@ -1,69 +1,14 @@
 /** Many runs of drawn calls, and each short row, beside the plain model; the same draws each time (or: runs, seed). */
 public final class ModelTest {
     private static final int CALLS = 500;
-    private static final String[] ROWS = {
-        "1", ".", "&12", "|12", "*1", "+3", "?2", "&+2?1", "&1*|12", "&3&.3", "&*.&1&..", "+|1&23", "*&?1?2",
-        "&*|12&1&..", "+&1.", "&?1&?2&?3?4", "**1", "+*2", "&5*5", "|*1+2", "&&123", "&1&2&3&4&5&01", "?+&.*2",
-        "&*.&1&.&.&.&..", "+&*1?2", "*|1&*23", "&*1*1", "|?1?2", "&.&.&.&.&.&.&..", "+?.", "&+1+1",
-    };
 
     /** Of hundreds of ways to stand, most of them unlike; the likeliest to go wrong where ways are told apart. */
     private static final String[] OF_MANY_WAYS = {
         "r1,*&3&&.&.3&&..&..;r1,+&3.;", "r1,+&&1.&.&.&.&.&..;r1,+|12;", "r1,*&|3+0.;r1,*&+&3.&0+&&.&..3;",
     };
 
-    private static long state = 20261119;
+    private static Draws draws;
     private static int wrong;
-
-    private static int draw(int below) {
-        state = state * 6364136223846793005L + 1442695040888963407L;
-        return (int) ((state >>> 33) % below);
-    }
-
-    /** Mostly from low to high, now and then past one of them or far off. */
-    private static int near(int low, int high) {
-        switch (draw(40)) {
-            case 0: return low - 1;
-            case 1: return high + 1;
-            case 2: return draw(2) == 0 ? Integer.MIN_VALUE : Integer.MAX_VALUE;
-            default: return low + draw(high - low + 1);
-        }
-    }
-
-    private static String drawnText() {
-        StringBuilder text = new StringBuilder();
-        for (int i = draw(4); i >= 0; i--) {
-            text.append('c').append(draw(6)).append(',');
-            for (int k = draw(6); k >= 0; k--) text.append((char) ('a' + draw(26)));
-            text.append(';');
-        }
-        for (int i = draw(3); i >= 0; i--) {
-            text.append('r').append(draw(4)).append(',').append(drawnRow()).append(';');
-        }
-        if (draw(8) != 0) {
-            text.append('s');
-            for (int k = draw(31); k > 0; k--) text.append((char) ('a' + draw(26)));
-            text.append(';');
-        }
-        for (int faults = draw(3) - 1; faults > 0; faults--) {
-            String signs = "cr;,0123456&|*+?.sa {~A";
-            text.setCharAt(draw(text.length()), signs.charAt(draw(signs.length())));
-        }
-        if (draw(9) == 0) text.setLength(draw(text.length() + 1));
-        return text.toString();
-    }
-
-    private static String drawnRow() {
-        if (draw(2) == 0) return ROWS[draw(ROWS.length)];
-        StringBuilder row = new StringBuilder();
-        int due = 1;
-        while (due > 0 && row.length() < 18) {
-            char sign = "012345.&&&||*+?".charAt(draw(row.length() > 8 ? 7 : 15));
-            row.append(sign);
-            due += sign == '&' || sign == '|' ? 1 : sign == '*' || sign == '+' || sign == '?' ? 0 : -1;
-        }
-        return row.toString();
-    }
 
     private static void due(int run, int call, String what, int got, int want) {
         if (got != want && wrong++ < 20) {
@@ -72,7 +17,7 @@ public final class ModelTest {
     }
 
     private static int layText(int run, int done, BoundaryRules x, PlainModel m) {
-        String text = drawnText();
+        String text = draws.text();
         due(run, done++, "wipe()", x.wipe(), m.wipe());
         for (int i = 0; i < text.length(); i++) {
             due(run, done++, "write(" + (int) text.charAt(i) + ")", x.write(text.charAt(i)), m.write(text.charAt(i)));
@@ -130,54 +75,60 @@ public final class ModelTest {
 
     private static void call(int run, int done, BoundaryRules x, PlainModel m) {
         int n = m.count(2), a, b, c;
-        switch (draw(31)) {
-            case 0: due(run, done, "write(" + (a = near(32, 126)) + ")", x.write(a), m.write(a)); break;
+        switch (draws.draw(31)) {
+            case 0: due(run, done, "write(" + (a = draws.near(32, 126)) + ")", x.write(a), m.write(a)); break;
             case 1: due(run, done, "wipe()", x.wipe(), m.wipe()); break;
             case 2: due(run, done, "fault()", x.fault(), m.fault()); break;
             case 3: due(run, done, "lay()", x.lay(), m.lay()); break;
-            case 4: due(run, done, "rule(" + (a = near(0, 3)) + ", " + (b = near(0, 3)) + ")", x.rule(a, b), m.rule(a, b)); break;
-            case 5: due(run, done, "place(" + (a = near(0, 9)) + ", " + (b = near(0, 1)) + ")", x.place(a, b), m.place(a, b)); break;
-            case 6: due(run, done, "kind(" + (a = near(0, 25)) + ")", x.kind(a), m.kind(a)); break;
-            case 7: due(run, done, "letter(" + (a = near(0, n)) + ")", x.letter(a), m.letter(a)); break;
-            case 8: case 9: due(run, done, "insert(" + (a = near(0, n)) + ", " + (b = near(0, 25)) + ")", x.insert(a, b), m.insert(a, b)); break;
-            case 10: due(run, done, "erase(" + (a = near(0, n)) + ")", x.erase(a), m.erase(a)); break;
-            case 11: due(run, done, "tell(" + (a = near(0, 25)) + ", " + (b = near(0, 5)) + ")", x.tell(a, b), m.tell(a, b)); break;
-            case 12: due(run, done, "rename(" + (a = near(0, 3)) + ", " + (b = near(0, 3)) + ")", x.rename(a, b), m.rename(a, b)); break;
+            case 4: due(run, done, "rule(" + (a = draws.near(0, 3)) + ", " + (b = draws.near(0, 3)) + ")", x.rule(a, b), m.rule(a, b)); break;
+            case 5: due(run, done, "place(" + (a = draws.near(0, 9)) + ", " + (b = draws.near(0, 1)) + ")", x.place(a, b), m.place(a, b)); break;
+            case 6: due(run, done, "kind(" + (a = draws.near(0, 25)) + ")", x.kind(a), m.kind(a)); break;
+            case 7: due(run, done, "letter(" + (a = draws.near(0, n)) + ")", x.letter(a), m.letter(a)); break;
+            case 8: case 9: due(run, done, "insert(" + (a = draws.near(0, n)) + ", " + (b = draws.near(0, 25)) + ")", x.insert(a, b), m.insert(a, b)); break;
+            case 10: due(run, done, "erase(" + (a = draws.near(0, n)) + ")", x.erase(a), m.erase(a)); break;
+            case 11: due(run, done, "tell(" + (a = draws.near(0, 25)) + ", " + (b = draws.near(0, 5)) + ")", x.tell(a, b), m.tell(a, b)); break;
+            case 12: due(run, done, "rename(" + (a = draws.near(0, 3)) + ", " + (b = draws.near(0, 3)) + ")", x.rename(a, b), m.rename(a, b)); break;
             case 13: case 14: due(run, done, "undo()", x.undo(), m.undo()); break;
-            case 15: due(run, done, "isBoundary(" + (a = near(0, n)) + ")", x.isBoundary(a), m.isBoundary(a)); break;
-            case 16: due(run, done, "boundary(" + (a = near(0, n)) + ", " + (b = near(0, 1)) + ")", x.boundary(a, b), m.boundary(a, b)); break;
-            case 17: case 18: due(run, done, "stand(" + (a = near(0, n)) + ")", x.stand(a), m.stand(a)); break;
-            case 19: case 20: due(run, done, "piece(" + (a = near(0, m.count(3))) + ", " + (b = near(0, 3)) + ")", x.piece(a, b), m.piece(a, b)); break;
-            case 21: due(run, done, "machine(" + (a = near(0, 4)) + ")", x.machine(a), m.machine(a)); break;
-            case 22: due(run, done, "alike(" + (a = near(0, 5)) + ", " + (b = near(0, 5)) + ")", x.alike(a, b), m.alike(a, b)); break;
-            case 23: due(run, done, "known(" + (a = near(0, 5)) + ", " + (b = near(0, 5)) + ")", x.known(a, b), m.known(a, b)); break;
-            case 24: due(run, done, "back(" + (a = near(0, n)) + ", " + (b = near(0, 1)) + ")", x.back(a, b), m.back(a, b)); break;
+            case 15: due(run, done, "isBoundary(" + (a = draws.near(0, n)) + ")", x.isBoundary(a), m.isBoundary(a)); break;
+            case 16: due(run, done, "boundary(" + (a = draws.near(0, n)) + ", " + (b = draws.near(0, 1)) + ")", x.boundary(a, b), m.boundary(a, b)); break;
+            case 17: case 18: due(run, done, "stand(" + (a = draws.near(0, n)) + ")", x.stand(a), m.stand(a)); break;
+            case 19: case 20: due(run, done, "piece(" + (a = draws.near(0, m.count(3))) + ", " + (b = draws.near(0, 3)) + ")", x.piece(a, b), m.piece(a, b)); break;
+            case 21: due(run, done, "machine(" + (a = draws.near(0, 4)) + ")", x.machine(a), m.machine(a)); break;
+            case 22: due(run, done, "alike(" + (a = draws.near(0, 5)) + ", " + (b = draws.near(0, 5)) + ")", x.alike(a, b), m.alike(a, b)); break;
+            case 23: due(run, done, "known(" + (a = draws.near(0, 5)) + ", " + (b = draws.near(0, 5)) + ")", x.known(a, b), m.known(a, b)); break;
+            case 24: due(run, done, "back(" + (a = draws.near(0, n)) + ", " + (b = draws.near(0, 1)) + ")", x.back(a, b), m.back(a, b)); break;
             case 25: due(run, done, "idle()", x.idle(), m.idle()); break;
-            case 26: due(run, done, "least(" + (a = near(0, 3)) + ")", x.least(a), m.least(a)); break;
+            case 26: due(run, done, "least(" + (a = draws.near(0, 3)) + ")", x.least(a), m.least(a)); break;
             case 27:
-                a = near(0, 9999);
-                b = near(1, 40);
-                c = near(0, 2);
+                a = draws.near(0, 9999);
+                b = draws.near(1, 40);
+                c = draws.near(0, 2);
                 due(run, done, "day(" + a + ", " + b + ", " + c + ")", x.day(a, b, c), m.day(a, b, c));
                 break;
             case 28: due(run, done, "keep()", x.keep(), m.keep()); break;
             case 29: due(run, done, "restore()", x.restore(), m.restore()); break;
-            default: due(run, done, "count(" + (a = near(0, 6)) + ")", x.count(a), m.count(a)); break;
+            default: due(run, done, "count(" + (a = draws.near(0, 6)) + ")", x.count(a), m.count(a)); break;
+        }
+    }
+
+    /** Two objects in turn, so that one would be seen to change the other. */
+    private static void runTwoInTurn(int run) {
+        BoundaryRules[] x = {new BoundaryRules(), new BoundaryRules()};
+        PlainModel[] m = {new PlainModel(), new PlainModel()};
+        int[] done = new int[2];
+        for (int i = 0; i < 2; i++) done[i] = draws.draw(3) == 0 ? 0 : layText(run, 0, x[i], m[i]);
+        while (done[0] < CALLS || done[1] < CALLS) {
+            int i = draws.draw(2);
+            if (done[i] >= CALLS) i = 1 - i;
+            call(run, done[i]++, x[i], m[i]);
+            if (draws.draw(150) == 0 && done[i] < CALLS - 210) done[i] = layText(run, done[i], x[i], m[i]);
         }
     }
 
     public static void main(String[] args) {
-        int runs = args.length > 0 ? Integer.parseInt(args[0]) : 60;
-        state += args.length > 1 ? Long.parseLong(args[1]) : 0;
-        for (int run = 0; run < runs; run++) {
-            BoundaryRules x = new BoundaryRules();
-            PlainModel m = new PlainModel();
-            int done = draw(3) == 0 ? 0 : layText(run, 0, x, m);
-            while (done < CALLS) {
-                call(run, done++, x, m);
-                if (draw(150) == 0 && done < CALLS - 210) done = layText(run, done, x, m);
-            }
-        }
+        int runs = args.length > 0 ? Integer.parseInt(args[0]) : 40;
+        draws = new Draws(args.length > 1 ? Long.parseLong(args[1]) : 0);
+        for (int run = 0; run < runs; run++) runTwoInTurn(run);
         for (int i = 0; i < OF_MANY_WAYS.length; i++) layAndAskOfManyWays(runs + i, OF_MANY_WAYS[i]);
         for (int signs = 0; signs <= 5; signs++) layEachRowOf(signs);
         System.out.println("ModelTest: " + (wrong == 0 ? "all as due" : wrong + " wrong"));
