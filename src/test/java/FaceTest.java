@@ -73,7 +73,7 @@ public final class FaceTest extends Due {
 
     private static Object value(Field f) {
         try {
-            return f.get(null);
+            return Modifier.isStatic(f.getModifiers()) ? f.get(null) : "of an object";
         } catch (IllegalAccessException e) {
             return e;
         }

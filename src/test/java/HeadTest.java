@@ -3,11 +3,11 @@ import java.util.List;
 
 /**
  * What the document's head says of the whole, part by part, on drawn texts: each part is held beside something else that
- * says the same (what rows let be, another line, another text), not beside numbers.
+ * says the same (what rows let be, another line, another text), not beside numbers. Other draws by a number: seed.
  */
 public final class HeadTest extends Due {
     private static final int TEXTS = 250;
-    private static final Draws DRAWS = new Draws(28);
+    private static Draws draws;
 
     /** A text without fault, of a rule at least, by its items. */
     private static final class Drawn {
@@ -51,7 +51,7 @@ public final class HeadTest extends Due {
     private static List<Drawn> texts(int number) {
         List<Drawn> texts = new ArrayList<>();
         for (int i = 0; i < number * 20 && texts.size() < number; i++) {
-            String text = DRAWS.text();
+            String text = draws.text();
             BoundaryRules x = new BoundaryRules();
             if (text.length() <= 160 && put(x, text).lay() > 0) texts.add(new Drawn(text));
         }
@@ -65,7 +65,7 @@ public final class HeadTest extends Due {
 
     private static String letters(int number) {
         StringBuilder letters = new StringBuilder();
-        for (int i = 0; i < number; i++) letters.append((char) ('a' + DRAWS.draw(26)));
+        for (int i = 0; i < number; i++) letters.append((char) ('a' + draws.draw(26)));
         return letters.toString();
     }
 
@@ -167,7 +167,7 @@ public final class HeadTest extends Due {
     /** Another line whose letters from two ahead of the place on are the same. */
     private static void whateverIsAhead(Drawn drawn, Standing x, int to) {
         String behind = x.line.substring(to - 2);
-        String ahead = letters(DRAWS.draw(31 - behind.length()));
+        String ahead = letters(draws.draw(31 - behind.length()));
         Standing y = new Standing(laid(drawn.classes + drawn.rules + "s" + ahead + behind + ";"));
         int off = ahead.length() - (to - 2);
         String words = " of " + drawn.text + " with " + ahead + " ahead of " + behind;
@@ -200,7 +200,7 @@ public final class HeadTest extends Due {
         int pairs = 0;
         for (Drawn drawn : texts(TEXTS)) {
             for (int a = 0; a <= 5; a++) {
-                int b = DRAWS.draw(6);
+                int b = draws.draw(6);
                 BoundaryRules x = drawn.lay();
                 String was = stands(x) + " " + bounds(x);
                 if (a == b || x.alike(a, b) == 0) continue;
@@ -247,7 +247,7 @@ public final class HeadTest extends Due {
     private static void theFirstFault() {
         int faults = 0;
         for (int i = 0; i < TEXTS * 4; i++) {
-            String text = DRAWS.text();
+            String text = draws.text();
             if (text.length() > 200) continue;
             int fault = faultOf(text);
             if (fault < 0) continue;
@@ -260,11 +260,11 @@ public final class HeadTest extends Due {
     }
 
     private static void act(BoundaryRules x) {
-        switch (DRAWS.draw(5)) {
-            case 0: x.insert(DRAWS.draw(x.count(2) + 1), DRAWS.draw(26)); break;
-            case 1: x.erase(DRAWS.draw(x.count(2) + 1)); break;
-            case 2: x.tell(DRAWS.draw(26), DRAWS.draw(6)); break;
-            case 3: x.rename(DRAWS.draw(x.count(0)), DRAWS.draw(4)); break;
+        switch (draws.draw(5)) {
+            case 0: x.insert(draws.draw(x.count(2) + 1), draws.draw(26)); break;
+            case 1: x.erase(draws.draw(x.count(2) + 1)); break;
+            case 2: x.tell(draws.draw(26), draws.draw(6)); break;
+            case 3: x.rename(draws.draw(x.count(0)), draws.draw(4)); break;
             default: x.undo(); break;
         }
     }
@@ -298,6 +298,7 @@ public final class HeadTest extends Due {
     }
 
     public static void main(String[] args) {
+        draws = new Draws(args.length > 0 ? Long.parseLong(args[0]) : 28);
         test("a piece goes on as long as it is the beginning of something", HeadTest::asLongAsItIsTheBeginning);
         test("rules by kind", HeadTest::byTheKindsOfRules);
         test("boundaries ahead of a place and behind it", HeadTest::boundariesAheadAndBehind);
